@@ -1,52 +1,23 @@
-import java.util.concurrent.Callable;
-
 /** Counts and prints the answers that are not as due. */
 final class Checks {
+    private static final int PRINTED = 50;
+
     private int wrong;
-
-    void equal(String what, long due, long got) {
-        if (due != got) {
-            report(what + " answered " + got + ", due is " + due);
-        }
-    }
-
-    void isTrue(String what, boolean got) {
-        if (!got) {
-            report(what + " does not hold");
-        }
-    }
 
     void same(String what, Object due, Object got) {
         if (!due.equals(got)) {
-            report(what + " answered " + got + ", due is " + due);
+            wrong++;
+            if (wrong <= PRINTED) {
+                System.out.println(what + " answered " + got + ", due is " + due);
+            }
         }
     }
 
-    void throwsExactly(String what, Class<? extends RuntimeException> due, Callable<?> call) {
-        same(what, "throws " + due.getSimpleName(), answerOf(call));
-    }
-
-    /** The answer as a text; an exception is an answer too. */
-    static String answerOf(Callable<?> call) {
-        try {
-            return String.valueOf(call.call());
-        } catch (Exception e) {
-            return "throws " + e.getClass().getSimpleName();
-        }
-    }
-
+    /** Ends the program with exit code 1 if an answer was wrong. */
     void finish() {
+        System.out.println(wrong == 0 ? "all answers are as due" : wrong + " answers are not as due");
         if (wrong > 0) {
-            System.out.println(wrong + " answers are not as due");
             System.exit(1);
-        }
-        System.out.println("all answers are as due");
-    }
-
-    private void report(String text) {
-        wrong++;
-        if (wrong <= 50) {
-            System.out.println(text);
         }
     }
 }

@@ -186,25 +186,20 @@ final class NaiveFountain {
 
     boolean isDetermined(int block) {
         checkBlock(block);
-        return isDeterminedBy(equations, block);
+        return rankOf(with(new Equation(1L << block, 0))) == rank();
     }
 
     int recovered(int block) {
         if (!isDetermined(block)) {
             throw new IllegalStateException();
         }
-        int value = 0;
-        for (int bit = 0; bit < 32; bit++) {
-            List<Equation> oneBit = new ArrayList<>();
-            for (Equation e : equations) {
-                oneBit.add(new Equation(e.blocks(), e.value() >>> bit & 1));
-            }
-            oneBit.add(new Equation(1L << block, 0));
-            if (isContradiction(oneBit)) {
-                value |= 1 << bit;
+        // Held against the block being 0, the equations leave its value as a contradiction.
+        for (Equation e : eliminated(with(new Equation(1L << block, 0)))) {
+            if (e.blocks() == 0 && e.value() != 0) {
+                return e.value();
             }
         }
-        return value;
+        return 0;
     }
 
     boolean wouldHelp(int drop) {
@@ -285,19 +280,16 @@ final class NaiveFountain {
     }
 
     private int determinedBy(List<Equation> list) {
+        int rank = rankOf(list);
         int count = 0;
         for (int block = 0; block < blocks(); block++) {
-            if (isDeterminedBy(list, block)) {
+            List<Equation> more = new ArrayList<>(list);
+            more.add(new Equation(1L << block, 0));
+            if (rankOf(more) == rank) {
                 count++;
             }
         }
         return count;
-    }
-
-    private static boolean isDeterminedBy(List<Equation> list, int block) {
-        List<Equation> more = new ArrayList<>(list);
-        more.add(new Equation(1L << block, 0));
-        return rankOf(more) == rankOf(list);
     }
 
     private static int rankOf(List<Equation> list) {

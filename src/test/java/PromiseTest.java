@@ -1,0 +1,675 @@
+import java.util.Arrays;
+
+/** Promises 1 to 23 one by one: ordinary inputs, the edges that the document names, wrong inputs. */
+public final class PromiseTest {
+    private static final int[] FIRST_WEIGHTS = {3, 20, 8, 4, 3, 2, 1, 1, 1, 1, 1, 1};
+    private static final int MIN = Integer.MIN_VALUE;
+    private static final int MAX = Integer.MAX_VALUE;
+    private static final String ARGUMENT = "throws IllegalArgumentException";
+    private static final String STATE = "throws IllegalStateException";
+    private static final String INDEX = "throws IndexOutOfBoundsException";
+
+    private final Checks checks = new Checks();
+    private FountainCode code = new FountainCode();
+
+    public static void main(String[] args) {
+        PromiseTest test = new PromiseTest();
+        test.promise1NewObject();
+        test.promise2Start();
+        test.promise2StartAnew();
+        test.promise3SetWeight();
+        test.promise4SetBlock();
+        test.promise5Blocks();
+        test.promise6BlockAt();
+        test.promise7Degree();
+        test.promise8BlockOf();
+        test.promise9ValueOf();
+        test.promise10Receive();
+        test.promise10MostDrops();
+        test.promise11ReceiveAll();
+        test.promise11Stops();
+        test.promise12Equations();
+        test.promise13Rank();
+        test.promises14To16Peeling();
+        test.promises17To19Determined();
+        test.promises20To22Forecasts();
+        test.promise22NextHelpful();
+        test.promise23Missing();
+        test.checks.finish();
+    }
+
+    private void promise1NewObject() {
+        code = new FountainCode();
+        checks.same("NONE", -1, FountainCode.NONE);
+        due(1, "blocks");
+        due(0, "blockAt", 0);
+        due(INDEX, "blockAt", 1);
+        due(0, "equations");
+        due(0, "rank");
+        due(0, "peeled");
+        due(0, "determined");
+        due(1, "missing");
+        due(FountainCode.NONE, "peeledBy", 0);
+        due(1, "degree", 24);
+        for (int degree = 12; degree >= 1; degree--) {
+            due(FIRST_WEIGHTS[degree - 1], "setWeight", degree, 7);
+        }
+    }
+
+    private void promise2Start() {
+        code = new FountainCode();
+        due(0, "start", 1, 0);
+        due(0, "start", 32, 0);
+        due(0, "start", 32, 6);
+        due(38, "blocks");
+        // Parity blocks that cover nothing are peeled at once.
+        due(1, "start", 31, 6);
+        due(1, "start", 16, 6);
+        due(2, "start", 15, 6);
+        due(0, "start", 16, 5);
+        due(3, "start", 7, 6);
+        due(3, "start", 4, 6);
+        due(4, "start", 3, 6);
+        due(5, "start", 1, 6);
+        dueUnchanged(ARGUMENT, "start", 0, 0);
+        dueUnchanged(ARGUMENT, "start", -1, 0);
+        dueUnchanged(ARGUMENT, "start", 33, 0);
+        dueUnchanged(ARGUMENT, "start", 1, -1);
+        dueUnchanged(ARGUMENT, "start", 1, 7);
+        dueUnchanged(ARGUMENT, "start", MIN, MAX);
+        dueUnchanged(ARGUMENT, "start", MAX, MIN);
+        due(7, "blocks");
+    }
+
+    private void promise2StartAnew() {
+        code = new FountainCode();
+        onlyDegree(1);
+        code.start(5, 2);
+        for (int block = 0; block < 5; block++) {
+            code.setBlock(block, 100 + block);
+        }
+        due(40, "receiveAll", 0, 40);
+        due(7, "peeled");
+        due(0, "start", 6, 3);
+        due(0, "peeled");
+        due(3, "equations");
+        due(3, "rank");
+        for (int block = 0; block < 9; block++) {
+            due(0, "blockAt", block);
+            due(FountainCode.NONE, "peeledBy", block);
+            due(STATE, "recovered", block);
+        }
+        // Weights stay.
+        due(0, "setWeight", 2, 0);
+        due(1, "setWeight", 1, 1);
+    }
+
+    private void promise3SetWeight() {
+        code = new FountainCode();
+        due(3, "setWeight", 1, 0);
+        due(0, "setWeight", 1, 1000);
+        due(1000, "setWeight", 1, 999);
+        due(999, "setWeight", 1, 999);
+        due(1, "setWeight", 12, 4);
+        for (int degree : new int[] {0, 13, -1, MIN, MAX}) {
+            dueUnchanged(ARGUMENT, "setWeight", degree, 5);
+        }
+        for (int weight : new int[] {-1, 1001, MIN, MAX}) {
+            dueUnchanged(ARGUMENT, "setWeight", 12, weight);
+        }
+        due(4, "setWeight", 12, 0);
+        onlyDegree(6);
+        dueUnchanged(STATE, "setWeight", 6, 0);
+        due(0, "setWeight", 5, 0);
+        dueUnchanged(ARGUMENT, "setWeight", 6, -1);
+        due(1, "setWeight", 6, 1000);
+        dueUnchanged(STATE, "setWeight", 6, 0);
+        due(0, "setWeight", 12, 1);
+        due(1000, "setWeight", 6, 0);
+        dueUnchanged(STATE, "setWeight", 12, 0);
+        equationsKeepTheirBlocks();
+    }
+
+    private void equationsKeepTheirBlocks() {
+        code = new FountainCode();
+        code.start(3, 0);
+        onlyDegree(1);
+        take(5, 0);
+        onlyDegree(3);
+        due(1, "peeled");
+        due(1, "rank");
+        due(true, "isDetermined", 0);
+        due(5, "recovered", 0);
+    }
+
+    private void promise4SetBlock() {
+        code = new FountainCode();
+        code.start(3, 2);
+        due(0, "setBlock", 0, MIN);
+        due(MIN, "setBlock", 0, MAX);
+        due(0, "setBlock", 2, -1);
+        due(-1, "setBlock", 2, -1);
+        for (int block : new int[] {-1, 3, 4, 5, MIN, MAX}) {
+            dueUnchanged(INDEX, "setBlock", block, 9);
+        }
+        onlyDegree(1);
+        due(1, "receive", dropOf(0), MAX);
+        due(MAX, "setBlock", 0, 17);
+        due(17, "blockAt", 0);
+        due(MAX, "recovered", 0);
+        due(STATE, "receive", dropOf(0), 17);
+    }
+
+    private void promise5Blocks() {
+        code = new FountainCode();
+        for (int sources = 1; sources <= 32; sources++) {
+            for (int parities = 0; parities <= 6; parities++) {
+                code.start(sources, parities);
+                due(sources + parities, "blocks");
+            }
+        }
+    }
+
+    private void promise6BlockAt() {
+        code = new FountainCode();
+        code.start(32, 6);
+        for (int block = 0; block < 32; block++) {
+            code.setBlock(block, 1 << block);
+        }
+        for (int block = 0; block < 32; block++) {
+            due(1 << block, "blockAt", block);
+        }
+        // Source i is covered by parity j if bit j of i + 1 is 1.
+        due(0x55555555, "blockAt", 32);
+        due(0x66666666, "blockAt", 33);
+        due(0x78787878, "blockAt", 34);
+        due(0x7F807F80, "blockAt", 35);
+        due(0x7FFF8000, "blockAt", 36);
+        due(0x80000000, "blockAt", 37);
+        code.setBlock(31, 5);
+        due(5, "blockAt", 37);
+        code.start(3, 6);
+        code.setBlock(0, 1);
+        code.setBlock(1, 2);
+        code.setBlock(2, 4);
+        due(5, "blockAt", 3);
+        due(6, "blockAt", 4);
+        due(0, "blockAt", 5);
+        due(0, "blockAt", 8);
+        for (int block : new int[] {-1, 9, 38, 64, MIN, MAX}) {
+            dueUnchanged(INDEX, "blockAt", block);
+        }
+    }
+
+    private void promise7Degree() {
+        code = new FountainCode();
+        code.start(32, 6);
+        due(2, "degree", 0);
+        due(4, "degree", 1);
+        due(9, "degree", -1);
+        due(7, "degree", MAX);
+        due(2, "degree", MIN);
+        due(12, "degree", 274);
+        for (int degree = 1; degree <= 12; degree++) {
+            onlyDegree(degree);
+            due(degree, "degree", 3 - degree);
+        }
+        for (int sources = 1; sources <= 13; sources++) {
+            code.start(sources, 0);
+            due(Math.min(sources, 12), "degree", MIN + sources);
+        }
+        code.start(1, 3);
+        due(4, "degree", 77);
+    }
+
+    private void promise8BlockOf() {
+        code = new FountainCode();
+        code.start(32, 6);
+        dueBlocks(0, 12, 13);
+        dueBlocks(1, 1, 6, 32, 22);
+        dueBlocks(-1, 7, 19, 28, 12, 29, 32, 4, 35, 10);
+        dueBlocks(MAX, 4, 0, 17, 36, 7, 31, 37);
+        dueBlocks(MIN, 16, 5);
+        dueBlocks(274, 29, 32, 8, 31, 16, 21, 34, 9, 36, 12, 35, 7);
+        code.start(5, 2);
+        dueBlocks(274, 4, 1, 6, 0, 5, 2, 3);
+        code.start(4, 1);
+        dueBlocks(-1, 3, 2, 4, 0, 1);
+        dueBlocks(0, 4, 2);
+        due(INDEX, "blockOf", 0, MAX);
+        due(INDEX, "blockOf", 0, MIN);
+    }
+
+    private void promise9ValueOf() {
+        code = new FountainCode();
+        code.start(4, 1);
+        due(0, "valueOf", -1);
+        for (int block = 0; block < 4; block++) {
+            code.setBlock(block, 1 << 8 * block);
+        }
+        // Drop 0 has the blocks 4 and 2; block 4 covers 0 and 2.
+        due(0x00000001, "valueOf", 0);
+        // Drop -1 has all blocks.
+        due(0x01000100, "valueOf", -1);
+        // Drop 7 has the blocks 1 and 2.
+        due(0x00010100, "valueOf", 7);
+        code.setBlock(1, -1);
+        due(0xFFFEFFFF, "valueOf", 7);
+    }
+
+    private void promise10Receive() {
+        code = new FountainCode();
+        code.start(4, 0);
+        due(0, "receive", dropOf(0, 1), 3);
+        due(0, "receive", dropOf(1, 2), 6);
+        due(3, "receive", dropOf(1), 100);
+        due(100 ^ 3, "recovered", 0);
+        due(100 ^ 6, "recovered", 2);
+        due(3, "equations");
+        dueUnchanged(STATE, "receive", dropOf(1), 101);
+        dueUnchanged(STATE, "receive", dropOf(0, 2), 4);
+        due(0, "receive", dropOf(0, 2), 3 ^ 6);
+        due(4, "equations");
+        due(1, "receive", dropOf(0, 1, 2, 3), MIN);
+        due(MIN ^ 100 ^ 3 ^ 6, "recovered", 3);
+        wrongValuesAreTaken();
+    }
+
+    private void wrongValuesAreTaken() {
+        code.start(2, 1);
+        code.setBlock(0, 8);
+        int pair = dropOf(0, 1);
+        due(0, "receive", pair, 77);
+        dueUnchanged(STATE, "receive", pair, 8);
+        due(0, "receive", pair, 77);
+        // The parity block 2 covers source block 0.
+        due(3, "receive", dropOf(2), 5);
+        due(5, "recovered", 0);
+        due(72, "recovered", 1);
+        due(8, "blockAt", 0);
+    }
+
+    private void promise10MostDrops() {
+        code = new FountainCode();
+        for (int transfer = 0; transfer < 2; transfer++) {
+            code.start(3, 6);
+            for (int drop = 0; drop < 120; drop++) {
+                dueAny("receive", drop, 0);
+            }
+            dueUnchanged(STATE, "receive", 120, 0);
+            dueUnchanged(STATE, "receive", 0, 0);
+            due(0, "receiveAll", 0, 1);
+            due(126, "equations");
+        }
+    }
+
+    private void promise11ReceiveAll() {
+        code = new FountainCode();
+        code.start(8, 2);
+        for (int block = 0; block < 8; block++) {
+            code.setBlock(block, block * 1001);
+        }
+        for (int count : new int[] {0, -1, 41, MIN, MAX}) {
+            dueUnchanged(ARGUMENT, "receiveAll", 0, count);
+        }
+        due(1, "receiveAll", 9, 1);
+        due(3, "equations");
+        FountainCode other = new FountainCode();
+        other.start(8, 2);
+        other.receive(9, code.valueOf(9));
+        // The numbers wrap around.
+        due(5, "receiveAll", MAX - 1, 5);
+        for (int drop : new int[] {MAX - 1, MAX, MIN, MIN + 1, MIN + 2}) {
+            other.receive(drop, code.valueOf(drop));
+        }
+        for (String name : new String[] {"equations", "rank", "peeled", "determined", "missing"}) {
+            due(new Call(name).answerOf(other), name);
+        }
+        due(40, "receiveAll", 0, 40);
+        for (int block = 0; block < 8; block++) {
+            due(block * 1001, "recovered", block);
+        }
+    }
+
+    private void promise11Stops() {
+        code = new FountainCode();
+        onlyDegree(1);
+        code.start(3, 0);
+        int known = dropOf(1);
+        code.receive(known, 4);
+        // The sender has 0 for block 1, so its drops contradict what the receiver took.
+        due(0, "receiveAll", known, 40);
+        due(1, "equations");
+        code.setBlock(1, 4);
+        due(40, "receiveAll", known, 40);
+        due(40, "receiveAll", known, 40);
+        due(39, "receiveAll", known, 40);
+        due(0, "receiveAll", known, 1);
+        due(120, "equations");
+        code.start(3, 0);
+        int first = firstOfDifferentPair();
+        code.receive(first + 1, 9);
+        due(1, "receiveAll", first, 40);
+        due(2, "equations");
+    }
+
+    /** A single-block drop that is followed by one of another block. */
+    private int firstOfDifferentPair() {
+        for (int drop = 0; drop < 1000; drop++) {
+            if (code.blockOf(drop, 0) != code.blockOf(drop + 1, 0)) {
+                return drop;
+            }
+        }
+        throw new AssertionError("all drops are the same");
+    }
+
+    private void promise12Equations() {
+        code = new FountainCode();
+        due(0, "equations");
+        code.start(20, 6);
+        due(6, "equations");
+        code.receive(4, 4);
+        due(7, "equations");
+        code.receive(4, 4);
+        due(8, "equations");
+        due(STATE, "receive", 4, 5);
+        due(8, "equations");
+        code.receiveAll(5, 12);
+        due(20, "equations");
+        code.start(20, 4);
+        due(4, "equations");
+    }
+
+    private void promise13Rank() {
+        code = new FountainCode();
+        code.start(5, 1);
+        due(1, "rank");
+        take(0, 0, 1);
+        take(0, 1, 3);
+        due(3, "rank");
+        take(0, 0, 3);
+        due(3, "rank");
+        // Parity block 5 covers 0, 2 and 4.
+        take(0, 2, 4);
+        take(0, 0, 5);
+        due(4, "rank");
+        take(0, 5);
+        due(5, "rank");
+        take(0, 4);
+        due(6, "rank");
+        due(8, "equations");
+    }
+
+    private void promises14To16Peeling() {
+        code = new FountainCode();
+        code.start(6, 0);
+        due(INDEX, "peeledAt", 0);
+        take(1, 2, 3);
+        take(2, 3, 4);
+        take(4, 2, 5);
+        due(0, "peeled");
+        take(8, 2);
+        // Block 2 opens equation 0 first; that opens 1 ahead of 2.
+        duePeels(new int[] {2, 3, 4, 5}, new int[] {3, 0, 1, 2});
+        due(FountainCode.NONE, "peeledBy", 0);
+        take(16, 0);
+        take(16, 0);
+        duePeels(new int[] {2, 3, 4, 5, 0}, new int[] {3, 0, 1, 2, 4});
+        peelingStalls();
+        peelingWithParities();
+    }
+
+    private void peelingStalls() {
+        code.start(3, 0);
+        // The three pairs and the triple determine all, but no equation has one block.
+        take(0, 0, 1);
+        take(0, 1, 2);
+        take(7, 0, 1, 2);
+        due(0, "peeled");
+        due(3, "determined");
+        due(FountainCode.NONE, "peeledBy", 1);
+        // One block peels the others, always by the lowest equation that will do.
+        take(7, 0);
+        duePeels(new int[] {0, 1, 2}, new int[] {3, 0, 1});
+    }
+
+    private void peelingWithParities() {
+        code.start(2, 6);
+        duePeels(new int[] {4, 5, 6, 7}, new int[] {2, 3, 4, 5});
+        take(9, 3);
+        duePeels(new int[] {4, 5, 6, 7, 3, 1}, new int[] {2, 3, 4, 5, 6, 1});
+        due(9, "recovered", 1);
+        for (int block : new int[] {-1, 8, 38, MIN, MAX}) {
+            dueUnchanged(INDEX, "peeledBy", block);
+        }
+    }
+
+    private void promises17To19Determined() {
+        code = new FountainCode();
+        code.start(5, 0);
+        take(1, 0, 1);
+        take(2, 1, 2);
+        due(0, "determined");
+        take(99, 0, 1, 2);
+        // Peeling stalls, and elimination goes on.
+        due(0, "peeled");
+        due(3, "determined");
+        due(99 ^ 2, "recovered", 0);
+        due(99 ^ 2 ^ 1, "recovered", 1);
+        due(99 ^ 1, "recovered", 2);
+        take(5, 3, 4);
+        due(3, "determined");
+        due(true, "isDetermined", 2);
+        due(false, "isDetermined", 3);
+        due(false, "isDetermined", 4);
+        dueUnchanged(STATE, "recovered", 3);
+        for (int block : new int[] {-1, 5, 32, 38, 64, MIN, MAX}) {
+            dueUnchanged(INDEX, "isDetermined", block);
+            dueUnchanged(INDEX, "recovered", block);
+        }
+        take(MIN, 4);
+        due(5, "determined");
+        due(5 ^ MIN, "recovered", 3);
+        parityBlocksAreDetermined();
+    }
+
+    private void parityBlocksAreDetermined() {
+        code.start(2, 2);
+        due(0, "determined");
+        // Parity block 2 covers 0, parity block 3 covers 1.
+        take(12, 2, 3);
+        due(0, "determined");
+        take(5, 0);
+        due(4, "determined");
+        due(5, "recovered", 2);
+        due(9, "recovered", 3);
+        due(9, "recovered", 1);
+    }
+
+    private void promises20To22Forecasts() {
+        code = new FountainCode();
+        code.start(4, 0);
+        take(1, 0, 1);
+        take(2, 1, 2);
+        dueForecast(false, 0, 0, 2);
+        dueForecast(false, 0, 0, 1);
+        dueForecast(true, 3, 1);
+        dueForecast(true, 3, 0, 1, 2);
+        dueForecast(true, 0, 0, 3);
+        dueForecast(true, 1, 3);
+        // Blocks 0 and 2 are the same but for their values: so block 3 is found.
+        dueForecast(true, 1, 0, 2, 3);
+        dueForecast(true, 0, 0, 1, 2, 3);
+        take(3, 0, 3);
+        dueForecast(true, 4, 2);
+        dueForecast(false, 0, 0, 1, 2, 3);
+        String before = States.of(code);
+        code.wouldHelp(dropOf(2));
+        code.wouldDetermine(dropOf(2));
+        code.nextHelpful(0);
+        checks.same("the state after questions", before, States.of(code));
+        take(4, 2);
+        dueForecast(false, 0, 3);
+        forecastAfterMostDrops();
+    }
+
+    private void forecastAfterMostDrops() {
+        code.start(2, 0);
+        int pair = dropOf(0, 1);
+        for (int count = 0; count < 120; count++) {
+            code.receive(pair, 6);
+        }
+        int single = dropOf(0);
+        due(STATE, "receive", single, 0);
+        due(true, "wouldHelp", single);
+        due(2, "wouldDetermine", single);
+    }
+
+    private void promise22NextHelpful() {
+        code = new FountainCode();
+        onlyDegree(1);
+        code.start(32, 0);
+        due(0, "nextHelpful", 0);
+        for (int block = 0; block < 31; block++) {
+            take(0, block);
+        }
+        int helpful = helpfulAfterGap(0, 10);
+        due(0, "nextHelpful", helpful);
+        due(1, "nextHelpful", helpful - 1);
+        due(10, "nextHelpful", helpful - 10);
+        // The numbers wrap around: block 31 is only in drops behind the end of the ints.
+        int behindEnd = helpfulAfterGap(MIN, 0) - MIN;
+        due(false, "wouldHelp", MAX);
+        due(behindEnd + 1, "nextHelpful", MAX);
+        take(0, 31);
+        due(FountainCode.NONE, "nextHelpful", 0);
+        due(FountainCode.NONE, "nextHelpful", helpful);
+        farthestHelpful();
+    }
+
+    /** 499 is the last distance that counts. */
+    private void farthestHelpful() {
+        onlyDegree(2);
+        code.start(3, 0);
+        take(0, 0, 1);
+        take(0, 1, 2);
+        // Pairs never help any more.
+        due(FountainCode.NONE, "nextHelpful", 0);
+        code.setWeight(2, 1000);
+        code.setWeight(12, 1);
+        int helpful = helpfulAfterGap(0, 500);
+        due(0, "nextHelpful", helpful);
+        due(499, "nextHelpful", helpful - 499);
+        due(FountainCode.NONE, "nextHelpful", helpful - 500);
+    }
+
+    /** The first drop that helps and comes right behind some that do not. */
+    private int helpfulAfterGap(int first, int least) {
+        int gap = 0;
+        for (int drop = first; drop < first + 1_000_000; drop++) {
+            if (code.wouldHelp(drop) && gap >= least) {
+                return drop;
+            }
+            gap = code.wouldHelp(drop) ? 0 : gap + 1;
+        }
+        throw new AssertionError("no such gap");
+    }
+
+    private void promise23Missing() {
+        code = new FountainCode();
+        due(1, "missing");
+        code.start(32, 6);
+        due(32, "missing");
+        code.start(4, 0);
+        due(4, "missing");
+        take(1, 0, 1);
+        take(1, 1, 0);
+        due(3, "missing");
+        take(1, 2);
+        take(1, 2, 3);
+        due(1, "missing");
+        take(1, 1);
+        due(0, "missing");
+    }
+
+    private void due(Object answer, String name, int... arguments) {
+        Call call = new Call(name, arguments);
+        checks.same(call.toString(), String.valueOf(answer), call.answerOf(code));
+    }
+
+    /** The call throws, and nothing has changed. */
+    private void dueUnchanged(String answer, String name, int... arguments) {
+        String before = States.of(code);
+        due(answer, name, arguments);
+        checks.same("the state after " + new Call(name, arguments), before, States.of(code));
+    }
+
+    /** The call answers with a number. */
+    private void dueAny(String name, int... arguments) {
+        Call call = new Call(name, arguments);
+        checks.same(call + " throws", false, call.answerOf(code).startsWith("throws"));
+    }
+
+    private void dueBlocks(int drop, int... blocks) {
+        due(blocks.length, "degree", drop);
+        for (int place = 0; place < blocks.length; place++) {
+            due(blocks[place], "blockOf", drop, place);
+        }
+        dueUnchanged(INDEX, "blockOf", drop, blocks.length);
+        dueUnchanged(INDEX, "blockOf", drop, -1);
+    }
+
+    private void duePeels(int[] order, int[] equations) {
+        due(order.length, "peeled");
+        for (int place = 0; place < order.length; place++) {
+            due(order[place], "peeledAt", place);
+            due(equations[place], "peeledBy", order[place]);
+        }
+        dueUnchanged(INDEX, "peeledAt", order.length);
+        dueUnchanged(INDEX, "peeledAt", -1);
+        dueUnchanged(INDEX, "peeledAt", MAX);
+        dueUnchanged(INDEX, "peeledAt", MIN);
+    }
+
+    private void dueForecast(boolean helps, int determines, int... blocks) {
+        int drop = dropOf(blocks);
+        due(helps, "wouldHelp", drop);
+        due(determines, "wouldDetermine", drop);
+        due(helps, "wouldHelp", drop);
+    }
+
+    /** Leaves weight, 1, with one degree alone. */
+    private void onlyDegree(int only) {
+        code.setWeight(only, 1);
+        for (int degree = 1; degree <= 12; degree++) {
+            if (degree != only) {
+                code.setWeight(degree, 0);
+            }
+        }
+    }
+
+    private void take(int value, int... blocks) {
+        code.receive(dropOf(blocks), value);
+    }
+
+    /** The first drop that has just these blocks, in whatever order. */
+    private int dropOf(int... blocks) {
+        int[] wanted = blocks.clone();
+        Arrays.sort(wanted);
+        for (int drop = 0; drop < 1_000_000; drop++) {
+            if (code.degree(drop) == wanted.length && Arrays.equals(wanted, sortedBlocks(drop))) {
+                return drop;
+            }
+        }
+        throw new AssertionError("no drop has the blocks " + Arrays.toString(blocks));
+    }
+
+    private int[] sortedBlocks(int drop) {
+        int[] blocks = new int[code.degree(drop)];
+        for (int place = 0; place < blocks.length; place++) {
+            blocks[place] = code.blockOf(drop, place);
+        }
+        Arrays.sort(blocks);
+        return blocks;
+    }
+}
