@@ -1,3 +1,5 @@
+import java.util.List;
+
 /** Counts and prints the answers that are not as due. */
 final class Checks {
     private static final int PRINTED = 50;
@@ -10,6 +12,14 @@ final class Checks {
             if (wrong <= PRINTED) {
                 System.out.println(what + " answered " + got + ", due is " + due);
             }
+        }
+    }
+
+    /** Two states line by line, so that only the lines that differ are printed. */
+    void sameLines(String what, List<String> due, List<String> got) {
+        same(what + "number of lines", due.size(), got.size());
+        for (int i = 0; i < due.size() && i < got.size(); i++) {
+            same(what + "line " + i, due.get(i), got.get(i));
         }
     }
 

@@ -3,7 +3,6 @@ import java.util.Random;
 /** Long runs of calls with fixed seeds, each answer held against NaiveFountain's. */
 public final class ComparisonTest {
     private static final int RUNS = 40;
-    private static final int CALLS = 512;
     private static final String[] NUMBER_QUESTIONS = {"blocks", "equations", "rank", "peeled", "determined", "missing"};
     private static final String[] BLOCK_QUESTIONS = {"blockAt", "peeledAt", "peeledBy", "isDetermined", "recovered"};
     private static final String[] DROP_QUESTIONS = {"degree", "valueOf", "wouldHelp", "wouldDetermine", "nextHelpful"};
@@ -31,13 +30,13 @@ public final class ComparisonTest {
     private void run(String name, Checks checks) {
         // In every other run the first transfer lasts, so that it comes to 120 drops.
         boolean oneTransfer = random.nextBoolean();
-        for (int number = 1; number <= CALLS; number++) {
+        for (int number = 1; number <= States.MOST_CALLS; number++) {
             Call call = number == 1 ? startCall() : oneTransfer ? laterCall() : anyCall();
             String what = name + " call " + number + ": " + call;
             String due = call.answerOf(naive);
             checks.same(what, due, call.answerOf(code));
-            if (due.startsWith("throws") || number == CALLS) {
-                checks.same("the state after " + what, States.of(naive), States.of(code));
+            if (due.startsWith("throws") || number == States.MOST_CALLS) {
+                checks.sameLines("the state after " + what + ", ", States.of(naive), States.of(code));
             }
         }
     }

@@ -136,11 +136,10 @@ final class NaiveFountain {
     }
 
     int receive(int drop, int value) {
-        Equation added = equationOf(drop, value);
-        if (dropsTaken() == 120 || contradicts(added)) {
+        if (dropsTaken() == 120 || contradicts(drop, value)) {
             throw new IllegalStateException();
         }
-        equations.add(added);
+        equations.add(equationOf(drop, value));
         return peel();
     }
 
@@ -247,8 +246,8 @@ final class NaiveFountain {
         return all;
     }
 
-    private boolean contradicts(Equation more) {
-        return isContradiction(with(more));
+    boolean contradicts(int drop, int value) {
+        return isContradiction(with(equationOf(drop, value)));
     }
 
     private int peel() {

@@ -1,45 +1,13 @@
-import java.util.Arrays;
-
 /** Promises 1 to 23 one by one: ordinary inputs, the edges that the document names, wrong inputs. */
-public final class PromiseTest {
+public final class PromiseTest extends Trials {
     private static final int[] FIRST_WEIGHTS = {3, 20, 8, 4, 3, 2, 1, 1, 1, 1, 1, 1};
-    private static final int MIN = Integer.MIN_VALUE;
-    private static final int MAX = Integer.MAX_VALUE;
-    private static final String ARGUMENT = "throws IllegalArgumentException";
-    private static final String STATE = "throws IllegalStateException";
-    private static final String INDEX = "throws IndexOutOfBoundsException";
-
-    private final Checks checks = new Checks();
-    private FountainCode code = new FountainCode();
 
     public static void main(String[] args) {
-        PromiseTest test = new PromiseTest();
-        test.promise1NewObject();
-        test.promise2Start();
-        test.promise2StartAnew();
-        test.promise3SetWeight();
-        test.promise4SetBlock();
-        test.promise5Blocks();
-        test.promise6BlockAt();
-        test.promise7Degree();
-        test.promise8BlockOf();
-        test.promise9ValueOf();
-        test.promise10Receive();
-        test.promise10MostDrops();
-        test.promise11ReceiveAll();
-        test.promise11Stops();
-        test.promise12Equations();
-        test.promise13Rank();
-        test.promises14To16Peeling();
-        test.promises17To19Determined();
-        test.promises20To22Forecasts();
-        test.promise22NextHelpful();
-        test.promise23Missing();
-        test.checks.finish();
+        new PromiseTest().runAll();
     }
 
-    private void promise1NewObject() {
-        code = new FountainCode();
+    @Sentence("Promise 1: A new object")
+    void promise1NewObject() {
         checks.same("NONE", -1, FountainCode.NONE);
         due(1, "blocks");
         due(0, "blockAt", 0);
@@ -49,15 +17,15 @@ public final class PromiseTest {
         due(0, "peeled");
         due(0, "determined");
         due(1, "missing");
-        due(FountainCode.NONE, "peeledBy", 0);
+        due(NONE, "peeledBy", 0);
         due(1, "degree", 24);
         for (int degree = 12; degree >= 1; degree--) {
             due(FIRST_WEIGHTS[degree - 1], "setWeight", degree, 7);
         }
     }
 
-    private void promise2Start() {
-        code = new FountainCode();
+    @Sentence("Promise 2: start")
+    void promise2Start() {
         due(0, "start", 1, 0);
         due(0, "start", 32, 0);
         due(0, "start", 32, 6);
@@ -81,12 +49,12 @@ public final class PromiseTest {
         due(7, "blocks");
     }
 
-    private void promise2StartAnew() {
-        code = new FountainCode();
+    @Sentence("Promise 2: start")
+    void promise2StartAnew() {
         onlyDegree(1);
-        code.start(5, 2);
+        make("start", 5, 2);
         for (int block = 0; block < 5; block++) {
-            code.setBlock(block, 100 + block);
+            make("setBlock", block, 100 + block);
         }
         due(40, "receiveAll", 0, 40);
         due(7, "peeled");
@@ -96,7 +64,7 @@ public final class PromiseTest {
         due(3, "rank");
         for (int block = 0; block < 9; block++) {
             due(0, "blockAt", block);
-            due(FountainCode.NONE, "peeledBy", block);
+            due(NONE, "peeledBy", block);
             due(STATE, "recovered", block);
         }
         // Weights stay.
@@ -104,8 +72,8 @@ public final class PromiseTest {
         due(1, "setWeight", 1, 1);
     }
 
-    private void promise3SetWeight() {
-        code = new FountainCode();
+    @Sentence("Promise 3: setWeight")
+    void promise3SetWeight() {
         due(3, "setWeight", 1, 0);
         due(0, "setWeight", 1, 1000);
         due(1000, "setWeight", 1, 999);
@@ -131,8 +99,8 @@ public final class PromiseTest {
     }
 
     private void equationsKeepTheirBlocks() {
-        code = new FountainCode();
-        code.start(3, 0);
+        beginAnew();
+        make("start", 3, 0);
         onlyDegree(1);
         take(5, 0);
         onlyDegree(3);
@@ -142,9 +110,9 @@ public final class PromiseTest {
         due(5, "recovered", 0);
     }
 
-    private void promise4SetBlock() {
-        code = new FountainCode();
-        code.start(3, 2);
+    @Sentence("Promise 4: setBlock")
+    void promise4SetBlock() {
+        make("start", 3, 2);
         due(0, "setBlock", 0, MIN);
         due(MIN, "setBlock", 0, MAX);
         due(0, "setBlock", 2, -1);
@@ -160,21 +128,21 @@ public final class PromiseTest {
         due(STATE, "receive", dropOf(0), 17);
     }
 
-    private void promise5Blocks() {
-        code = new FountainCode();
+    @Sentence("Promise 5: blocks")
+    void promise5Blocks() {
         for (int sources = 1; sources <= 32; sources++) {
             for (int parities = 0; parities <= 6; parities++) {
-                code.start(sources, parities);
+                make("start", sources, parities);
                 due(sources + parities, "blocks");
             }
         }
     }
 
-    private void promise6BlockAt() {
-        code = new FountainCode();
-        code.start(32, 6);
+    @Sentence("Promise 6: blockAt")
+    void promise6BlockAt() {
+        make("start", 32, 6);
         for (int block = 0; block < 32; block++) {
-            code.setBlock(block, 1 << block);
+            make("setBlock", block, 1 << block);
         }
         for (int block = 0; block < 32; block++) {
             due(1 << block, "blockAt", block);
@@ -186,12 +154,12 @@ public final class PromiseTest {
         due(0x7F807F80, "blockAt", 35);
         due(0x7FFF8000, "blockAt", 36);
         due(0x80000000, "blockAt", 37);
-        code.setBlock(31, 5);
+        make("setBlock", 31, 5);
         due(5, "blockAt", 37);
-        code.start(3, 6);
-        code.setBlock(0, 1);
-        code.setBlock(1, 2);
-        code.setBlock(2, 4);
+        make("start", 3, 6);
+        make("setBlock", 0, 1);
+        make("setBlock", 1, 2);
+        make("setBlock", 2, 4);
         due(5, "blockAt", 3);
         due(6, "blockAt", 4);
         due(0, "blockAt", 5);
@@ -201,9 +169,9 @@ public final class PromiseTest {
         }
     }
 
-    private void promise7Degree() {
-        code = new FountainCode();
-        code.start(32, 6);
+    @Sentence("Promise 7: degree")
+    void promise7Degree() {
+        make("start", 32, 6);
         due(2, "degree", 0);
         due(4, "degree", 1);
         due(9, "degree", -1);
@@ -215,37 +183,37 @@ public final class PromiseTest {
             due(degree, "degree", 3 - degree);
         }
         for (int sources = 1; sources <= 13; sources++) {
-            code.start(sources, 0);
+            make("start", sources, 0);
             due(Math.min(sources, 12), "degree", MIN + sources);
         }
-        code.start(1, 3);
+        make("start", 1, 3);
         due(4, "degree", 77);
     }
 
-    private void promise8BlockOf() {
-        code = new FountainCode();
-        code.start(32, 6);
+    @Sentence("Promise 8: blockOf")
+    void promise8BlockOf() {
+        make("start", 32, 6);
         dueBlocks(0, 12, 13);
         dueBlocks(1, 1, 6, 32, 22);
         dueBlocks(-1, 7, 19, 28, 12, 29, 32, 4, 35, 10);
         dueBlocks(MAX, 4, 0, 17, 36, 7, 31, 37);
         dueBlocks(MIN, 16, 5);
         dueBlocks(274, 29, 32, 8, 31, 16, 21, 34, 9, 36, 12, 35, 7);
-        code.start(5, 2);
+        make("start", 5, 2);
         dueBlocks(274, 4, 1, 6, 0, 5, 2, 3);
-        code.start(4, 1);
+        make("start", 4, 1);
         dueBlocks(-1, 3, 2, 4, 0, 1);
         dueBlocks(0, 4, 2);
         due(INDEX, "blockOf", 0, MAX);
         due(INDEX, "blockOf", 0, MIN);
     }
 
-    private void promise9ValueOf() {
-        code = new FountainCode();
-        code.start(4, 1);
+    @Sentence("Promise 9: valueOf")
+    void promise9ValueOf() {
+        make("start", 4, 1);
         due(0, "valueOf", -1);
         for (int block = 0; block < 4; block++) {
-            code.setBlock(block, 1 << 8 * block);
+            make("setBlock", block, 1 << 8 * block);
         }
         // Drop 0 has the blocks 4 and 2; block 4 covers 0 and 2.
         due(0x00000001, "valueOf", 0);
@@ -253,13 +221,13 @@ public final class PromiseTest {
         due(0x01000100, "valueOf", -1);
         // Drop 7 has the blocks 1 and 2.
         due(0x00010100, "valueOf", 7);
-        code.setBlock(1, -1);
+        make("setBlock", 1, -1);
         due(0xFFFEFFFF, "valueOf", 7);
     }
 
-    private void promise10Receive() {
-        code = new FountainCode();
-        code.start(4, 0);
+    @Sentence("Promise 10: receive")
+    void promise10Receive() {
+        make("start", 4, 0);
         due(0, "receive", dropOf(0, 1), 3);
         due(0, "receive", dropOf(1, 2), 6);
         due(3, "receive", dropOf(1), 100);
@@ -276,8 +244,8 @@ public final class PromiseTest {
     }
 
     private void wrongValuesAreTaken() {
-        code.start(2, 1);
-        code.setBlock(0, 8);
+        make("start", 2, 1);
+        make("setBlock", 0, 8);
         int pair = dropOf(0, 1);
         due(0, "receive", pair, 77);
         dueUnchanged(STATE, "receive", pair, 8);
@@ -289,12 +257,12 @@ public final class PromiseTest {
         due(8, "blockAt", 0);
     }
 
-    private void promise10MostDrops() {
-        code = new FountainCode();
+    @Sentence("Promise 10: receive")
+    void promise10MostDrops() {
         for (int transfer = 0; transfer < 2; transfer++) {
-            code.start(3, 6);
+            make("start", 3, 6);
             for (int drop = 0; drop < 120; drop++) {
-                dueAny("receive", drop, 0);
+                make("receive", drop, 0);
             }
             dueUnchanged(STATE, "receive", 120, 0);
             dueUnchanged(STATE, "receive", 0, 0);
@@ -303,86 +271,68 @@ public final class PromiseTest {
         }
     }
 
-    private void promise11ReceiveAll() {
-        code = new FountainCode();
-        code.start(8, 2);
+    @Sentence("Promise 11: receiveAll")
+    void promise11ReceiveAll() {
+        make("start", 8, 2);
         for (int block = 0; block < 8; block++) {
-            code.setBlock(block, block * 1001);
+            make("setBlock", block, block * 1001);
         }
         for (int count : new int[] {0, -1, 41, MIN, MAX}) {
             dueUnchanged(ARGUMENT, "receiveAll", 0, count);
         }
         due(1, "receiveAll", 9, 1);
         due(3, "equations");
-        FountainCode other = new FountainCode();
-        other.start(8, 2);
-        other.receive(9, code.valueOf(9));
         // The numbers wrap around.
         due(5, "receiveAll", MAX - 1, 5);
-        for (int drop : new int[] {MAX - 1, MAX, MIN, MIN + 1, MIN + 2}) {
-            other.receive(drop, code.valueOf(drop));
-        }
-        for (String name : new String[] {"equations", "rank", "peeled", "determined", "missing"}) {
-            due(new Call(name).answerOf(other), name);
-        }
+        due(8, "equations");
         due(40, "receiveAll", 0, 40);
         for (int block = 0; block < 8; block++) {
             due(block * 1001, "recovered", block);
         }
     }
 
-    private void promise11Stops() {
-        code = new FountainCode();
+    @Sentence("Promise 11: receiveAll")
+    void promise11Stops() {
         onlyDegree(1);
-        code.start(3, 0);
+        make("start", 3, 0);
         int known = dropOf(1);
-        code.receive(known, 4);
+        make("receive", known, 4);
         // The sender has 0 for block 1, so its drops contradict what the receiver took.
         due(0, "receiveAll", known, 40);
         due(1, "equations");
-        code.setBlock(1, 4);
+        make("setBlock", 1, 4);
         due(40, "receiveAll", known, 40);
         due(40, "receiveAll", known, 40);
         due(39, "receiveAll", known, 40);
         due(0, "receiveAll", known, 1);
         due(120, "equations");
-        code.start(3, 0);
-        int first = firstOfDifferentPair();
-        code.receive(first + 1, 9);
+        make("start", 3, 0);
+        int first = firstOfSingles(0, 1);
+        make("receive", first + 1, 9);
         due(1, "receiveAll", first, 40);
         due(2, "equations");
     }
 
-    /** A single-block drop that is followed by one of another block. */
-    private int firstOfDifferentPair() {
-        for (int drop = 0; drop < 1000; drop++) {
-            if (code.blockOf(drop, 0) != code.blockOf(drop + 1, 0)) {
-                return drop;
-            }
-        }
-        throw new AssertionError("all drops are the same");
-    }
-
-    private void promise12Equations() {
-        code = new FountainCode();
+    @Sentence("Promise 12: equations")
+    void promise12Equations() {
         due(0, "equations");
-        code.start(20, 6);
+        make("start", 20, 6);
         due(6, "equations");
-        code.receive(4, 4);
+        make("receive", 4, 4);
         due(7, "equations");
-        code.receive(4, 4);
+        make("receive", 4, 4);
         due(8, "equations");
         due(STATE, "receive", 4, 5);
         due(8, "equations");
-        code.receiveAll(5, 12);
+        make("receiveAll", 5, 12);
         due(20, "equations");
-        code.start(20, 4);
+        make("start", 20, 4);
         due(4, "equations");
     }
 
-    private void promise13Rank() {
-        code = new FountainCode();
-        code.start(5, 1);
+    @Sentence("Promise 13: rank")
+    void promise13Rank() {
+        make("start", 5, 1);
         due(1, "rank");
         take(0, 0, 1);
         take(0, 1, 3);
@@ -400,9 +350,9 @@ public final class PromiseTest {
         due(8, "equations");
     }
 
-    private void promises14To16Peeling() {
-        code = new FountainCode();
-        code.start(6, 0);
+    @Sentence("Promises 14 to 16: peeled, peeledAt and peeledBy")
+    void promises14To16Peeling() {
+        make("start", 6, 0);
         due(INDEX, "peeledAt", 0);
         take(1, 2, 3);
         take(2, 3, 4);
@@ -411,7 +361,7 @@ public final class PromiseTest {
         take(8, 2);
         // Block 2 opens equation 0 first; that opens 1 ahead of 2.
         duePeels(new int[] {2, 3, 4, 5}, new int[] {3, 0, 1, 2});
-        due(FountainCode.NONE, "peeledBy", 0);
+        due(NONE, "peeledBy", 0);
         take(16, 0);
         take(16, 0);
         duePeels(new int[] {2, 3, 4, 5, 0}, new int[] {3, 0, 1, 2, 4});
@@ -420,21 +370,21 @@ public final class PromiseTest {
     }
 
     private void peelingStalls() {
-        code.start(3, 0);
+        make("start", 3, 0);
         // The three pairs and the triple determine all, but no equation has one block.
         take(0, 0, 1);
         take(0, 1, 2);
         take(7, 0, 1, 2);
         due(0, "peeled");
         due(3, "determined");
-        due(FountainCode.NONE, "peeledBy", 1);
+        due(NONE, "peeledBy", 1);
         // One block peels the others, always by the lowest equation that will do.
         take(7, 0);
         duePeels(new int[] {0, 1, 2}, new int[] {3, 0, 1});
     }
 
     private void peelingWithParities() {
-        code.start(2, 6);
+        make("start", 2, 6);
         duePeels(new int[] {4, 5, 6, 7}, new int[] {2, 3, 4, 5});
         take(9, 3);
         duePeels(new int[] {4, 5, 6, 7, 3, 1}, new int[] {2, 3, 4, 5, 6, 1});
@@ -444,9 +394,9 @@ public final class PromiseTest {
         }
     }
 
-    private void promises17To19Determined() {
-        code = new FountainCode();
-        code.start(5, 0);
+    @Sentence("Promises 17 to 19: determined, isDetermined and recovered")
+    void promises17To19Determined() {
+        make("start", 5, 0);
         take(1, 0, 1);
         take(2, 1, 2);
         due(0, "determined");
@@ -474,7 +424,7 @@ public final class PromiseTest {
     }
 
     private void parityBlocksAreDetermined() {
-        code.start(2, 2);
+        make("start", 2, 2);
         due(0, "determined");
         // Parity block 2 covers 0, parity block 3 covers 1.
         take(12, 2, 3);
@@ -486,9 +436,9 @@ public final class PromiseTest {
         due(9, "recovered", 1);
     }
 
-    private void promises20To22Forecasts() {
-        code = new FountainCode();
-        code.start(4, 0);
+    @Sentence("Promises 20 to 22: wouldHelp, wouldDetermine and nextHelpful")
+    void promises20To22Forecasts() {
+        make("start", 4, 0);
         take(1, 0, 1);
         take(2, 1, 2);
         dueForecast(false, 0, 0, 2);
@@ -503,32 +453,26 @@ public final class PromiseTest {
         take(3, 0, 3);
         dueForecast(true, 4, 2);
         dueForecast(false, 0, 0, 1, 2, 3);
-        String before = States.of(code);
-        code.wouldHelp(dropOf(2));
-        code.wouldDetermine(dropOf(2));
-        code.nextHelpful(0);
-        checks.same("the state after questions", before, States.of(code));
+        dueUnchanged(true, "wouldHelp", dropOf(2));
+        dueUnchanged(4, "wouldDetermine", dropOf(2));
         take(4, 2);
         dueForecast(false, 0, 3);
         forecastAfterMostDrops();
     }
 
     private void forecastAfterMostDrops() {
-        code.start(2, 0);
-        int pair = dropOf(0, 1);
-        for (int count = 0; count < 120; count++) {
-            code.receive(pair, 6);
-        }
+        make("start", 2, 0);
+        takePairs(120, 6);
         int single = dropOf(0);
         due(STATE, "receive", single, 0);
         due(true, "wouldHelp", single);
         due(2, "wouldDetermine", single);
     }
 
-    private void promise22NextHelpful() {
-        code = new FountainCode();
+    @Sentence("Promise 22: nextHelpful")
+    void promise22NextHelpful() {
         onlyDegree(1);
-        code.start(32, 0);
+        make("start", 32, 0);
         due(0, "nextHelpful", 0);
         for (int block = 0; block < 31; block++) {
             take(0, block);
@@ -542,45 +486,33 @@ public final class PromiseTest {
         due(false, "wouldHelp", MAX);
         due(behindEnd + 1, "nextHelpful", MAX);
         take(0, 31);
-        due(FountainCode.NONE, "nextHelpful", 0);
-        due(FountainCode.NONE, "nextHelpful", helpful);
+        due(NONE, "nextHelpful", 0);
+        due(NONE, "nextHelpful", helpful);
         farthestHelpful();
     }
 
     /** 499 is the last distance that counts. */
     private void farthestHelpful() {
         onlyDegree(2);
-        code.start(3, 0);
+        make("start", 3, 0);
         take(0, 0, 1);
         take(0, 1, 2);
         // Pairs never help any more.
-        due(FountainCode.NONE, "nextHelpful", 0);
-        code.setWeight(2, 1000);
-        code.setWeight(12, 1);
+        due(NONE, "nextHelpful", 0);
+        make("setWeight", 2, 1000);
+        make("setWeight", 12, 1);
         int helpful = helpfulAfterGap(0, 500);
         due(0, "nextHelpful", helpful);
         due(499, "nextHelpful", helpful - 499);
-        due(FountainCode.NONE, "nextHelpful", helpful - 500);
+        due(NONE, "nextHelpful", helpful - 500);
     }
 
-    /** The first drop that helps and comes right behind some that do not. */
-    private int helpfulAfterGap(int first, int least) {
-        int gap = 0;
-        for (int drop = first; drop < first + 1_000_000; drop++) {
-            if (code.wouldHelp(drop) && gap >= least) {
-                return drop;
-            }
-            gap = code.wouldHelp(drop) ? 0 : gap + 1;
-        }
-        throw new AssertionError("no such gap");
-    }
-
-    private void promise23Missing() {
-        code = new FountainCode();
+    @Sentence("Promise 23: missing")
+    void promise23Missing() {
         due(1, "missing");
-        code.start(32, 6);
+        make("start", 32, 6);
         due(32, "missing");
-        code.start(4, 0);
+        make("start", 4, 0);
         due(4, "missing");
         take(1, 0, 1);
         take(1, 1, 0);
@@ -590,24 +522,6 @@ public final class PromiseTest {
         due(1, "missing");
         take(1, 1);
         due(0, "missing");
-    }
-
-    private void due(Object answer, String name, int... arguments) {
-        Call call = new Call(name, arguments);
-        checks.same(call.toString(), String.valueOf(answer), call.answerOf(code));
-    }
-
-    /** The call throws, and nothing has changed. */
-    private void dueUnchanged(String answer, String name, int... arguments) {
-        String before = States.of(code);
-        due(answer, name, arguments);
-        checks.same("the state after " + new Call(name, arguments), before, States.of(code));
-    }
-
-    /** The call answers with a number. */
-    private void dueAny(String name, int... arguments) {
-        Call call = new Call(name, arguments);
-        checks.same(call + " throws", false, call.answerOf(code).startsWith("throws"));
     }
 
     private void dueBlocks(int drop, int... blocks) {
@@ -636,40 +550,5 @@ public final class PromiseTest {
         due(helps, "wouldHelp", drop);
         due(determines, "wouldDetermine", drop);
         due(helps, "wouldHelp", drop);
-    }
-
-    /** Leaves weight, 1, with one degree alone. */
-    private void onlyDegree(int only) {
-        code.setWeight(only, 1);
-        for (int degree = 1; degree <= 12; degree++) {
-            if (degree != only) {
-                code.setWeight(degree, 0);
-            }
-        }
-    }
-
-    private void take(int value, int... blocks) {
-        code.receive(dropOf(blocks), value);
-    }
-
-    /** The first drop that has just these blocks, in whatever order. */
-    private int dropOf(int... blocks) {
-        int[] wanted = blocks.clone();
-        Arrays.sort(wanted);
-        for (int drop = 0; drop < 1_000_000; drop++) {
-            if (code.degree(drop) == wanted.length && Arrays.equals(wanted, sortedBlocks(drop))) {
-                return drop;
-            }
-        }
-        throw new AssertionError("no drop has the blocks " + Arrays.toString(blocks));
-    }
-
-    private int[] sortedBlocks(int drop) {
-        int[] blocks = new int[code.degree(drop)];
-        for (int place = 0; place < blocks.length; place++) {
-            blocks[place] = code.blockOf(drop, place);
-        }
-        Arrays.sort(blocks);
-        return blocks;
     }
 }
