@@ -44,13 +44,13 @@ public final class ReceiveEdgesTest extends Trials {
 
     @Sentence("Promise 10: Returns the number of blocks that are peeled by it.")
     void receiveCountsWhatItPeels() {
-        make("start", 32, 0);
+        make("start", 32, 6);
         for (int block = 0; block < 31; block++) {
             due(0, "receive", dropOf(block, block + 1), 1);
         }
-        // One block opens the whole chain.
-        due(32, "receive", dropOf(31), 1);
-        due(32, "peeled");
+        // One block opens the whole chain, and with it all parity equations.
+        due(38, "receive", dropOf(31), 1);
+        due(38, "peeled");
         due(0, "receive", dropOf(0), 0);
         make("start", 3, 0);
         due(1, "receive", dropOf(2), 6);

@@ -1,7 +1,7 @@
 /** The edges that promises 13 to 19 and the terms of peeling and elimination name. */
-public final class ReceiverEdgesTest extends Trials {
+public final class RecoveryEdgesTest extends Trials {
     public static void main(String[] args) {
-        new ReceiverEdgesTest().runAll();
+        new RecoveryEdgesTest().runAll();
     }
 
     @Sentence("Promise 13: Returns the rank of all equations.")
